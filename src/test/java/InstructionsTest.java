@@ -1,4 +1,4 @@
-/** The instructions of RV32I and M, and traps 1, 3 and 5. The words are those that GNU as makes. */
+/** The instructions of RV32I and M, and traps 1, 3 and 5. The words in the tables are those that GNU as makes. */
 public final class InstructionsTest {
     private static final int MIN = Integer.MIN_VALUE;
     private static final int MAX = Integer.MAX_VALUE;

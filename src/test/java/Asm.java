@@ -99,12 +99,16 @@ final class Asm {
         return begun(ECALL, jal(0, -4));
     }
 
-    /** Does a service and comes back to the ECALL; answers register 10, or -1000 - the trap. */
-    static int call(RvMachine m, int service, int a0, int a1, int a2) {
+    static void setForService(RvMachine m, int service, int a0, int a1, int a2) {
         m.set(A7, service);
         m.set(A0, a0);
         m.set(A1, a1);
         m.set(A2, a2);
+    }
+
+    /** Does a service and comes back to the ECALL; answers register 10, or -1000 - the trap. */
+    static int call(RvMachine m, int service, int a0, int a1, int a2) {
+        setForService(m, service, a0, a1, a2);
         int done = m.run(2);
         return done == 2 ? m.register(A0) : -1000 - (m.state() - 10);
     }

@@ -1,6 +1,7 @@
 /** Compares answers with those that are due, prints the ones that differ, and ends the test. */
 final class Due {
     private final String test;
+    private String sentence = "";
     private int looked;
     private int wrong;
 
@@ -8,11 +9,22 @@ final class Due {
         this.test = test;
     }
 
+    /** The sentence of the document that the answers from here on are about. */
+    void about(String words) {
+        sentence = "\"" + words + "\": ";
+    }
+
     void is(String what, long got, long want) {
         looked++;
         if (got != want) {
-            wrong++;
-            System.out.println(test + ": " + what + " answered " + got + ", due is " + want);
+            tell(what + " answered " + got + ", due is " + want);
+        }
+    }
+
+    void isSame(String what, String got, String want) {
+        looked++;
+        if (!got.equals(want)) {
+            tell(what + ":\n  " + got + "\n  due is\n  " + want);
         }
     }
 
@@ -29,9 +41,13 @@ final class Due {
             got = e.getClass().getSimpleName();
         }
         if (!got.equals(kind.getSimpleName())) {
-            wrong++;
-            System.out.println(test + ": " + what + " threw " + got + ", due is " + kind.getSimpleName());
+            tell(what + " threw " + got + ", due is " + kind.getSimpleName());
         }
+    }
+
+    private void tell(String fault) {
+        wrong++;
+        System.out.println(test + ": " + sentence + fault);
     }
 
     void end() {

@@ -61,6 +61,7 @@ public final class EncodingsTest {
         machine.change(0, w);
         machine.begin(0);
         machine.run(1);
-        due.is("whether " + Integer.toHexString(w) + " is none", machine.state() == 11 ? 1 : 0, isInstruction(w) ? 0 : 1);
+        due.is("whether " + Integer.toHexString(w) + " is none", machine.state() == 11 ? 1 : 0,
+            isInstruction(w) ? 0 : 1);
     }
 }

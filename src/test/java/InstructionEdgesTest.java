@@ -95,9 +95,11 @@ public final class InstructionEdgesTest {
                 int div = b == 0 ? -1 : a == MIN && b == -1 ? MIN : a / b;
                 int rem = b == 0 ? a : a == MIN && b == -1 ? 0 : a % b;
                 due.is("div" + what, result(m, Asm.r(1, 4, 5, 6, 7), a, b), div);
-                due.is("divu" + what, result(m, Asm.r(1, 5, 5, 6, 7), a, b), b == 0 ? -1 : Integer.divideUnsigned(a, b));
+                due.is("divu" + what, result(m, Asm.r(1, 5, 5, 6, 7), a, b),
+                    b == 0 ? -1 : Integer.divideUnsigned(a, b));
                 due.is("rem" + what, result(m, Asm.r(1, 6, 5, 6, 7), a, b), rem);
-                due.is("remu" + what, result(m, Asm.r(1, 7, 5, 6, 7), a, b), b == 0 ? a : Integer.remainderUnsigned(a, b));
+                due.is("remu" + what, result(m, Asm.r(1, 7, 5, 6, 7), a, b),
+                    b == 0 ? a : Integer.remainderUnsigned(a, b));
             }
         }
     }

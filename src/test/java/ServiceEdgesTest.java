@@ -87,7 +87,8 @@ public final class ServiceEdgesTest {
             due.is(size + " bytes", Asm.call(m, GIVEN, size), 0);
             Asm.call(twin, 7, 0);
             twin.set(Asm.A7, GIVEN);
-            due.isSame(size + " bytes", Seen.now(m, 0x10000, 0xa0f9f, 0xb0000), Seen.now(twin, 0x10000, 0xa0f9f, 0xb0000));
+            due.isSame(size + " bytes", Seen.now(m, 0x10000, 0xa0f9f, 0xb0000),
+                Seen.now(twin, 0x10000, 0xa0f9f, 0xb0000));
             due.is("a last one goes", Asm.call(m, 2, 1), 1);
             due.is("the next", Asm.call(m, GIVEN, 4000), 11 << 16);
         }
@@ -299,8 +300,8 @@ public final class ServiceEdgesTest {
 
     private static void copiedWhenRead(Due due) {
         due.about("all of them read before they are written");
-        int[][] rows = {{1, 0, 7}, {0, 1, 7}, {2, 0, 6}, {0, 2, 6}, {3, 2, 4}, {2, 3, 4}, {0, 0, 8}, {4, 0, 4}, {0, 4, 4},
-            {7, 0, 1}, {5, 1, 3}, {1, 2, 1}};
+        int[][] rows = {{1, 0, 7}, {0, 1, 7}, {2, 0, 6}, {0, 2, 6}, {3, 2, 4}, {2, 3, 4}, {0, 0, 8}, {4, 0, 4},
+            {0, 4, 4}, {7, 0, 1}, {5, 1, 3}, {1, 2, 1}};
         for (int[] row : rows) {
             RvMachine m = forCopies(8);
             Asm.call(m, 8, 0x10000 + row[0], 0x10000 + row[1], row[2]);
